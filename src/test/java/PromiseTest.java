@@ -39,6 +39,7 @@ public final class PromiseTest {
         limits();
         stepsOfTokensThatStay();
         laterRuns();
+        runsBehindFaults();
         decided();
         same();
         count();
@@ -407,6 +408,7 @@ public final class PromiseTest {
         expect("no blank is away behind a name", x, "if4 seven _ a fi", "_ a");
         expect("one blank is away", x, "if4 7 _ _ a fi", "_ a");
         expect("any of category 10", x, "if4 7 #2560 #2815 a fi", "#2815 a");
+        expect("the last of category 10", x, "if4 7 #2815 a fi", "a");
         expect("not of category 9", x, "if4 7 #2559 a fi", "#2559 a");
         expect("nor 11", x, "if4 7 #2816 a fi", "#2816 a");
         expect("name of a blank stays", x, "if4 7 @21 a fi", "@21 a");
@@ -631,8 +633,10 @@ public final class PromiseTest {
         expectTold("5001st step, deep", x, 5000, 1, 0, 0, 0, 0, 9);
         expectFault("5001st step in an asking", x, "if0 @21", 9, "");
         expectTold("5001st step in an asking", x, 5000, 0, 1, 1, 0, 1, 9);
+        due("not decided", x.decided(0), -5);
         openLimits(x);
         exactSteps();
+        stepsEndWhileSkipping();
     }
 
     private static void openLimits(Subject x) {
@@ -646,12 +650,39 @@ public final class PromiseTest {
 
     /** 5000 steps and no more tokens: that is no fault. */
     private static void exactSteps() {
+        ConditionText x = with4999Steps();
+        due("one step less", x.run(), 0);
+        due("one step less", x.told(0), 4999);
+        x.token(-1, 5);
+        due("5000 steps", x.run(), 1);
+        due("5000 steps", x.told(0), 5000);
+        due("no fault", x.told(6), 0);
+        x.token(-1, 5);
+        due("one token more", x.run(), -9);
+        due("one token more", x.told(0), 5000);
+        due("put out before", x.told(1), 1);
+    }
+
+    private static void stepsEndWhileSkipping() {
+        ConditionText x = with4999Steps();
+        x.meaning(10, 5, 6);
+        x.token(-1, 4106);
+        due("no token to skip", x.run(), -1);
+        x.token(-1, 5);
+        due("no step to skip it", x.run(), -9);
+        due("steps", x.told(0), 5000);
+        due("not skipped", x.told(4), 0);
+        due("open", x.told(5), 1);
+        due("decided before", x.decided(0), 0);
+    }
+
+    /** An input that puts nothing out: name 0 makes 1 step, name 1 makes 13, name 2 makes 1 + 12 * 13 = 157. */
+    private static ConditionText with4999Steps() {
         ConditionText x = new ConditionText();
-        for (int i = 0; i < 4; i++) {
+        for (int i = 0; i < 3; i++) {
             x.body();
             x.meaning(i, 2, i);
         }
-        // Name 0 makes 1 step, name 1 makes 13, name 2 makes 1 + 12 * 13 = 157.
         for (int i = 0; i < 12; i++) {
             x.token(1, 4096);
             x.token(2, 4097);
@@ -664,16 +695,7 @@ public final class PromiseTest {
         }
         x.token(-1, 4096);
         x.token(-1, 4096);
-        due("one step less", x.run(), 0);
-        due("one step less", x.told(0), 4999);
-        x.token(-1, 5);
-        due("5000 steps", x.run(), 1);
-        due("5000 steps", x.told(0), 5000);
-        due("no fault", x.told(6), 0);
-        x.token(-1, 5);
-        due("one token more", x.run(), -9);
-        due("one token more", x.told(0), 5000);
-        due("put out before", x.told(1), 1);
+        return x;
     }
 
     private static void stepsOfTokensThatStay() {
@@ -711,6 +733,29 @@ public final class PromiseTest {
         due("run of nothing", x.run(), 0);
         due("nothing put out", x.at(0), -1);
         due("no step", x.told(0), 0);
+    }
+
+    /** What a fault left unread or kept must not come up in the next run. */
+    private static void runsBehindFaults() {
+        Subject x = prepared();
+        put(x, 0, "fi p q");
+        x.meaning(20, 2, 0);
+        expectFault("a token kept", x, "if6 a b fi if9 4 c", 8, "");
+        expectTold("a token kept", x, 7, 0, 2, 1, 2, 1, 8);
+        due("the same again", x.run(), -8);
+        expectTold("the same again", x, 7, 0, 2, 1, 2, 1, 8);
+        x.clear();
+        put(x, -1, "d");
+        due("behind a kept token", x.run(), 1);
+        due("behind a kept token", x.at(0), 11 * 256 + 'd');
+        x.clear();
+        put(x, -1, "@20 e f");
+        due("a body unread", x.run(), -2);
+        x.clear();
+        put(x, -1, "g");
+        due("behind an unread body", x.run(), 1);
+        due("behind an unread body", x.at(0), 11 * 256 + 'g');
+        due("behind an unread body", x.told(0), 1);
     }
 
     private static void decided() {
