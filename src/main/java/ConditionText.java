@@ -285,7 +285,7 @@ public final class ConditionText {
         }
 
         int tokenIn(int row, int place) {
-            if (place < 0 || place >= sizeOf(row)) {
+            if (row < 0 || row >= sizes.length || place < 0 || place >= sizes[row]) {
                 return NO_TOKEN;
             }
             int cell = row * BODY_ROOM + place;
@@ -373,7 +373,9 @@ public final class ConditionText {
                 kept = NO_TOKEN;
                 return t;
             }
-            leaveRowsThatEnded();
+            while (top >= 0 && top < rows.length && places[top] >= book.sizeOf(rows[top])) {
+                top--;
+            }
             if (top < 0 || top >= rows.length) {
                 return NO_TOKEN;
             }
@@ -392,12 +394,6 @@ public final class ConditionText {
 
         int stepsMade() {
             return steps;
-        }
-
-        private void leaveRowsThatEnded() {
-            while (top >= 0 && top < rows.length && places[top] >= book.sizeOf(rows[top])) {
-                top--;
-            }
         }
     }
 
@@ -430,7 +426,11 @@ public final class ConditionText {
                 if (t == NO_TOKEN) {
                     break;
                 }
-                goThrough(t);
+                if (t == NO_STEP) {
+                    fail(FAULT_TOO_LONG);
+                } else if (!takeIn(t, 0)) {
+                    putOut(t);
+                }
             }
             if (fault == 0 && openCount > 0) {
                 fail(FAULT_ENDED);
@@ -483,25 +483,16 @@ public final class ConditionText {
             }
         }
 
-        private void goThrough(int t) {
-            if (t == NO_STEP) {
-                fail(FAULT_TOO_LONG);
-            } else if (!takeIn(t, 0)) {
-                if (isMark(book.kindOf(t))) {
-                    fail(FAULT_MISPLACED);
-                } else {
-                    putOut(t);
-                }
-            }
-        }
-
+        /** A token that nothing has taken in is put out; an ELSE, OR or FI among them has no condition. */
         private void putOut(int t) {
-            if (outSize < 0 || outSize >= out.length) {
+            if (isMark(book.kindOf(t))) {
+                fail(FAULT_MISPLACED);
+            } else if (outSize < 0 || outSize >= out.length) {
                 fail(FAULT_TOO_LONG);
-                return;
+            } else {
+                out[outSize] = t;
+                outSize++;
             }
-            out[outSize] = t;
-            outSize++;
         }
 
         /** A token that must be there: NO_TOKEN, with a fault, if it is not. */

@@ -1,19 +1,5 @@
-import java.util.ArrayList;
-import java.util.List;
-import java.util.function.Consumer;
-
-/**
- * Answers that the document asks for, promise by promise.
- *
- * Rows are written as words: a letter is a sign of category 11; a digit, + - < = > one of category 12; _ a blank
- * (category 10); if0 .. if10, else, or, fi the names 0 .. 13 of those kinds; seven a name that is the number 7;
- * @k the name k; #k the token that is told as k.
- */
-public final class PromiseTest {
-    private static final int SEVEN = 14;
-    private static final int BLANK = 10 * 256 + 32;
-    private static int wrong = 0;
-
+/** Answers that the document asks for, promise by promise. */
+public final class PromiseTest extends RowTest {
     public static void main(String[] args) {
         newObject();
         meaning();
@@ -43,9 +29,7 @@ public final class PromiseTest {
         decided();
         same();
         count();
-        if (wrong > 0) {
-            System.exit(1);
-        }
+        finish();
     }
 
     // ---- Promises 1 to 7, 12 and 13: what is kept between runs
@@ -775,166 +759,5 @@ public final class PromiseTest {
         due("second opened", x.decided(1), 2);
         due("third opened", x.decided(2), 0);
         due("none such", x.decided(3), -5);
-    }
-
-    // ---- Helpers
-
-    /**
-     * An object and the calls that prepared it. The document promises nothing behind 512 calls, so that each row
-     * that is tried gets a new object with the same preparation.
-     */
-    private static final class Subject {
-        private final List<Consumer<ConditionText>> preparation = new ArrayList<>();
-        private ConditionText now = new ConditionText();
-
-        void renew() {
-            now = new ConditionText();
-            for (Consumer<ConditionText> call : preparation) {
-                call.accept(now);
-            }
-        }
-
-        int meaning(int name, int kind, int v) {
-            preparation.add(x -> x.meaning(name, kind, v));
-            return now.meaning(name, kind, v);
-        }
-
-        int body() {
-            preparation.add(ConditionText::body);
-            return now.body();
-        }
-
-        int token(int body, int t) {
-            if (body != -1) {
-                preparation.add(x -> x.token(body, t));
-            }
-            return now.token(body, t);
-        }
-
-        int mode(int mode, boolean on) {
-            preparation.add(x -> x.mode(mode, on));
-            return now.mode(mode, on);
-        }
-
-        int end(int file, boolean on) {
-            preparation.add(x -> x.end(file, on));
-            return now.end(file, on);
-        }
-
-        int clear() {
-            return now.clear();
-        }
-
-        int run() {
-            return now.run();
-        }
-
-        int at(int i) {
-            return now.at(i);
-        }
-
-        int told(int what) {
-            return now.told(what);
-        }
-
-        int decided(int i) {
-            return now.decided(i);
-        }
-
-        boolean same(int a, int b) {
-            return now.same(a, b);
-        }
-
-        int count(int what) {
-            return now.count(what);
-        }
-    }
-
-    private static Subject prepared() {
-        Subject x = new Subject();
-        for (int i = 0; i <= 10; i++) {
-            x.meaning(i, 5, i);
-        }
-        x.meaning(11, 6, 0);
-        x.meaning(12, 7, 0);
-        x.meaning(13, 8, 0);
-        x.meaning(SEVEN, 4, 7);
-        x.body();
-        return x;
-    }
-
-    private static String times(String text, int n) {
-        return text.repeat(n);
-    }
-
-    private static void put(Subject x, int row, String text) {
-        for (String word : text.trim().split("\\s+")) {
-            if (!word.isEmpty() && x.token(row, read(word)) < 0) {
-                due("no room for " + word + " of " + text, 1, 0);
-            }
-        }
-    }
-
-    private static int read(String word) {
-        char first = word.charAt(0);
-        switch (word) {
-            case "else":
-                return 4107;
-            case "or":
-                return 4108;
-            case "fi":
-                return 4109;
-            case "seven":
-                return 4096 + SEVEN;
-            case "_":
-                return BLANK;
-            default:
-                break;
-        }
-        if (first == '@') {
-            return 4096 + Integer.parseInt(word.substring(1));
-        }
-        if (first == '#') {
-            return Integer.parseInt(word.substring(1));
-        }
-        if (word.startsWith("if")) {
-            return 4096 + Integer.parseInt(word.substring(2));
-        }
-        return (Character.isLetter(first) ? 11 : 12) * 256 + first;
-    }
-
-    private static void expect(String what, Subject x, String input, String out) {
-        expectAnswer(what, x, input, 0, out);
-    }
-
-    private static void expectFault(String what, Subject x, String input, int fault, String out) {
-        expectAnswer(what, x, input, fault, out);
-    }
-
-    private static void expectAnswer(String what, Subject x, String input, int fault, String out) {
-        String label = what + " [" + input + "]";
-        String[] words = out.trim().isEmpty() ? new String[0] : out.trim().split("\\s+");
-        x.renew();
-        put(x, -1, input);
-        due(label + " run", x.run(), fault == 0 ? words.length : -fault);
-        due(label + " told 1", x.told(1), words.length);
-        due(label + " told 6", x.told(6), fault);
-        for (int i = 0; i < words.length; i++) {
-            due(label + " at " + i, x.at(i), read(words[i]));
-        }
-        due(label + " at the end", x.at(words.length), -1);
-    }
-
-    private static void expectTold(String what, Subject x, int... due) {
-        for (int i = 0; i < due.length; i++) {
-            due(what + ": told " + i, x.told(i), due[i]);
-        }
-    }
-
-    private static void due(String call, int got, int want) {
-        if (got != want) {
-            wrong++;
-            System.out.println(call + " answered " + got + ", due is " + want);
-        }
     }
 }
