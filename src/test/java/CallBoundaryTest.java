@@ -55,10 +55,12 @@ public final class CallBoundaryTest extends RowTest {
         toldOfTheLatestRun();
         decidedItsEnds();
         decidedTheFirst100();
+        decidedTrueAndFalse();
         decidedCases();
         notDecided();
         sameOfNoTokens();
         sameOfEmptyAndFullBodies();
+        sameTokensNotSameMeanings();
         sameOfEachKind();
         countItsEnds();
         whatIsOnlyAskedForChangesNothing();
@@ -584,7 +586,7 @@ public final class CallBoundaryTest extends RowTest {
         due("opened", x.told(2), 100);
         due("the 100th", x.decided(99), 1);
         due("no 101st", x.decided(100), -5);
-        expect("101", x, times("@20 ", 16) + times("if5 fi ", 5), "");
+        expect("101, the last unlike the first", x, times("@20 ", 16) + times("if5 fi ", 4) + "if6 fi", "");
         due("opened", x.told(2), 101);
         for (int i = 0; i < 100; i++) {
             due("decided " + i, x.decided(i), 1);
@@ -593,7 +595,22 @@ public final class CallBoundaryTest extends RowTest {
         expect("those behind the 100th work as others", x, times("@20 ", 17) + "if6 a else b fi if7 1 _ c or d fi", "b d");
     }
 
-    /** "1 TRUE, 0 FALSE, 2 and n a case n of 0 and more, -1 a case below 0". */
+    /** "1 TRUE, 0 FALSE": of each IF that is no case. */
+    private static void decidedTrueAndFalse() {
+        Subject x = prepared();
+        x.mode(1, true);
+        x.end(1, true);
+        String[][] rows = {{"if0 a a", "if0 a b"}, {"if1 a b", "if1 a 1"}, {"if2 a a", "if2 a b"}, {"if3 1 < 2 _", "if3 1 < 1 _"},
+            {"if4 1 _", "if4 2 _"}, {"if5", "if6"}, {"if8 a", "if8 @39"}, {"if9 1 _", "if9 0 _"}, {"if10 1 _", "if10 0 _"}};
+        for (String[] row : rows) {
+            expect("TRUE", x, row[0] + " p else q fi", "p");
+            due("TRUE: " + row[0], x.decided(0), 1);
+            expect("FALSE", x, row[1] + " p else q fi", "q");
+            due("FALSE: " + row[1], x.decided(0), 0);
+        }
+    }
+
+    /** "2 and n a case n of 0 and more, -1 a case below 0". */
     private static void decidedCases() {
         Subject x = prepared();
         int[][] cases = {{0, 2}, {1, 3}, {2, 4}, {999999999, 1000000001}, {-1, -1}, {-2, -1}, {-5, -1}, {-999999999, -1}};
@@ -602,10 +619,6 @@ public final class CallBoundaryTest extends RowTest {
             expect("case " + c[0], x, "if7 @20 fi", "");
             due("case " + c[0], x.decided(0), c[1]);
         }
-        expect("true", x, "if5 fi", "");
-        due("true", x.decided(0), 1);
-        expect("false", x, "if6 fi", "");
-        due("false", x.decided(0), 0);
     }
 
     /** "-5 not decided (a fault came before)": the ones within may have been decided all the same. */
@@ -677,6 +690,24 @@ public final class CallBoundaryTest extends RowTest {
         due("full", x.same(4106, 4107), true);
         due("full, the last is another", x.same(4106, 4108), false);
         due("full, the first is another", x.same(4109, 4106), false);
+    }
+
+    /** "bodies of the same tokens": tokens that only mean the same are others. */
+    private static void sameTokensNotSameMeanings() {
+        Subject x = new Subject();
+        int[] tokens = {4116, 4117, 4118, A};
+        x.meaning(22, 1, A);
+        for (int i = 0; i < 4; i++) {
+            x.body();
+            x.meaning(i, 2, i);
+            x.token(i, tokens[i]);
+        }
+        due("two names without meaning", x.same(4116, 4117), true);
+        due("but bodies of one each", x.same(4096, 4097), false);
+        due("a name as its sign", x.same(4118, A), true);
+        due("but bodies of one each", x.same(4098, 4099), false);
+        x.meaning(4, 2, 0);
+        due("two macros of one body", x.same(4096, 4100), true);
     }
 
     /** "others of the same kind and v". */

@@ -8,8 +8,10 @@ public final class TermBoundaryTest extends RowTest {
     public static void main(String[] args) {
         signsHaveCodesAndCategories();
         macrosOfEmptyAndFullBodies();
+        macrosWithinMacros();
         bodiesAsTheyAreThen();
         noConditionOpenAtFirst();
+        nothingLeftOfTheRunBefore();
         whatIsPutOutAsItStands();
         atMost300PutOut();
         atMost5000Steps();
@@ -26,6 +28,7 @@ public final class TermBoundaryTest extends RowTest {
         codesOfNames();
         categoriesOfNames();
         tokensAsTheyStand();
+        macrosAsTheyStand();
         relationsAtTheirEdges();
         oddNumbers();
         knownTokens();
@@ -86,6 +89,34 @@ public final class TermBoundaryTest extends RowTest {
         expect("a macro as the last token", x, "@22 @20", "a b c d e f g h i j k l");
     }
 
+    /** "its body's tokens .. stand in its place": 20 bodies within one another, left one by one and all at once. */
+    private static void macrosWithinMacros() {
+        Subject x = new Subject();
+        for (int i = 0; i < 20; i++) {
+            x.body();
+            x.meaning(i, 2, i);
+        }
+        for (int i = 0; i < 19; i++) {
+            x.token(i, 100 + i);
+            x.token(i, 4096 + i + 1);
+        }
+        x.token(-1, 4096);
+        x.token(-1, 5);
+        due("left all at once", x.run(), 20);
+        due("steps", x.told(0), 40);
+        due("the innermost but one", x.at(18), 118);
+        due("behind them all", x.at(19), 5);
+        for (int i = 0; i < 19; i++) {
+            x.token(i, 200 + i);
+        }
+        due("left one by one", x.run(), 39);
+        for (int i = 0; i < 19; i++) {
+            due("on the way in", x.at(i), 100 + i);
+            due("on the way out", x.at(19 + i), 218 - i);
+        }
+        due("behind them all", x.at(38), 5);
+    }
+
     /** "its body's tokens (as they are then)": at the run, not when the meaning was given. */
     private static void bodiesAsTheyAreThen() {
         Subject x = prepared();
@@ -115,6 +146,30 @@ public final class TermBoundaryTest extends RowTest {
             x.clear();
             put(x, -1, times("if5 ", 20) + times("fi ", 20));
             due("room for 20 again", x.run(), 0);
+        }
+    }
+
+    /** "TO RUN is to go through the input": what stayed or was not gone through before a fault does not come again. */
+    private static void nothingLeftOfTheRunBefore() {
+        Subject x = prepared();
+        put(x, 0, "fi b b b b b b b b b b b");
+        x.meaning(20, 2, 0);
+        String[] rows = {"if9 4 c d", "@20 c", "if0 a fi c", "if4 1 if5 c d", "if6 a", "if4 1 or c"};
+        for (String row : rows) {
+            x.renew();
+            put(x, -1, row);
+            due("a fault: " + row, x.run() < 0, true);
+            x.clear();
+            due("an empty input behind it: " + row, x.run(), 0);
+            expectTold("an empty input behind it: " + row, x, 0, 0, 0, 0, 0, 0, 0);
+            x.renew();
+            put(x, -1, row);
+            due("a fault: " + row, x.run() < 0, true);
+            x.clear();
+            put(x, -1, "z");
+            due("one token behind it: " + row, x.run(), 1);
+            due("one token behind it: " + row, x.at(0), read("z"));
+            expectTold("one token behind it: " + row, x, 1, 1, 0, 0, 0, 0, 0);
         }
     }
 
@@ -276,6 +331,11 @@ public final class TermBoundaryTest extends RowTest {
         expect("the one around is open still", x, "if6 else if5 fi a fi", "a");
         expectFault("and has had its else", x, "if6 else if5 fi a else fi", 2, "a");
         expect("one that was opened behind another's else has its own", x, "if6 else if6 a else b fi fi", "b");
+        expect("one behind one with an else has its own", x, "if6 else fi if6 a else b fi if5 c else fi", "b c");
+        expect("a case behind one with an else", x, "if6 else fi if7 1 _ a or b or c else fi", "b");
+        expectFault("one behind a case is none", x, "if7 0 _ a or fi if5 b or fi", 2, "a b");
+        expect("the most and the last", x, "if5 if5 if5 fi fi fi if5 fi", "");
+        expectTold("the most and the last", x, 8, 0, 4, 3, 0, 0, 0);
     }
 
     // ---- What is skipped
@@ -401,6 +461,29 @@ public final class TermBoundaryTest extends RowTest {
         }
     }
 
+    /** "macros (both outer or none) with bodies of the same tokens": empty, full, and tokens that only mean the same. */
+    private static void macrosAsTheyStand() {
+        Subject x = prepared();
+        String[] bodies = {"", "", "a a a a a a a a a a a a", "a a a a a a a a a a a a", "a a a a a a a a a a a b",
+            "a a a a a a a a a a a", "@38", "@39"};
+        for (int i = 0; i < bodies.length; i++) {
+            if (i > 0) {
+                x.body();
+            }
+            put(x, i, bodies[i]);
+            x.meaning(15 + i, 2, i);
+            x.meaning(25 + i, 3, i);
+        }
+        for (int i = 0; i < bodies.length; i++) {
+            for (int k = 0; k < bodies.length; k++) {
+                String answer = bodies[i].equals(bodies[k]) ? "p" : "q";
+                expect("neither outer", x, "if2 @" + (15 + i) + " @" + (15 + k) + " p else q fi", answer);
+                expect("both outer", x, "if2 @" + (25 + i) + " @" + (25 + k) + " p else q fi", answer);
+                expect("one outer", x, "if2 @" + (15 + i) + " @" + (25 + k) + " p else q fi", "q");
+            }
+        }
+    }
+
     /** "3 a NUMBER, a sign 60, 61 or 62 (less, same, greater)"; "4 no relation"; "relations, which are of category 12". */
     private static void relationsAtTheirEdges() {
         Subject x = prepared();
@@ -437,6 +520,7 @@ public final class TermBoundaryTest extends RowTest {
         for (int n : numbers) {
             x.meaning(20, 4, n);
             expect("odd: " + n, x, "if4 @20 p else q fi", n % 2 != 0 ? "p" : "q");
+            due("odd: " + n, x.decided(0), n % 2 != 0 ? 1 : 0);
             expect("odd, turned round: " + n, x, "if4 - @20 p else q fi", n % 2 != 0 ? "p" : "q");
         }
     }
